@@ -54,6 +54,7 @@ public final class PromiseTest {
         does();
         doesEachOrder();
         faults();
+        faultsFarBehind();
         refusedOrders();
         back();
         backToAll();
@@ -811,6 +812,13 @@ public final class PromiseTest {
         fault("i0,1;", 2);
         fault("t1 0000000;", 9);
         fault("t1234567 0;", 7);
+        refusedOnly(0);
+        due("count(6)", x.count(6), 0);
+    }
+
+    private void faultsFarBehind() {
+        begin("23, FAULT far behind");
+        x.input(1);
         fault("w1\t1;", 2);
         fault("s1;" + (char) 0, 3);
         fault("s1;" + (char) 127, 3);
