@@ -62,9 +62,14 @@ abstract class Edges {
         return x.does();
     }
 
-    /** An object with nothing left as it was at first, and with room for two STATES more. */
+    /**
+     * An object with nothing left as it was at first, and with room for three STATES more. It ends with three
+     * calls taken back, so that a STATE copied too late or not at all is another one.
+     */
     static DrumCrank busy() {
         DrumCrank x = new DrumCrank();
+        x.wheel(12);
+        x.lays(-1);
         x.input(405060);
         x.wears(3, 2);
         x.wears(0, 9);
@@ -74,10 +79,10 @@ abstract class Edges {
         x.ups(99);
         x.shifts(1);
         x.downs(2);
+        x.sets(0, 5);
         x.back();
         x.back();
-        x.wheel(12);
-        x.lays(-1);
+        x.back();
         type(x, "i0 1;u2;");
         return x;
     }

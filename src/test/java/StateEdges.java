@@ -167,7 +167,7 @@ final class StateEdges extends Edges {
         long[] ahead = kept(y);
         due("divides(), 20 TURNS without a BELL", y.divides(), NO);
         same("behind divides()", kept(y), ahead);
-        due("told(4) behind divides()", y.told(4), 4);
+        due("told(4) behind divides()", y.told(4), 3);
         due("told(1) behind divides()", y.told(1), 1);
     }
 

@@ -121,6 +121,9 @@ final class TrialEdges extends Edges {
         due("one alone, how many", x.explains(0, 1, 0), 1);
         due("one alone, the least", x.explains(0, 1, 1), 1);
         due("one alone, the greatest", x.explains(0, 1, 2), 1);
+        due("all but one, how many", x.explains(99, 99, 0), 53);
+        due("all but one, the least", x.explains(99, 99, 1), 2);
+        due("all but one, the greatest", x.explains(99, 99, 2), 59);
         x.input(100000);
         due("one alone, the last DRUM", x.explains(0, 99, 1), 51);
         due("NONE is no refusal", x.told(0) + x.told(1) + x.told(2), 0);
